@@ -212,11 +212,10 @@ public final class LinkArchive {
         }
         Use u = c.uses[c.useCount];
         u.begin(kind, type, keyOf(name, sort), receiver);
-        Edition own = editions[c.edition];
-        if (u.hindrance(own, c) != WELL) {
+        u.rememberOwn(editions[c.edition]);
+        if (c.meeting(u, editions[c.edition]) != WELL) {
             return NONE;
         }
-        u.rememberOwn(own);
         c.useCount++;
         return c.useCount - 1;
     }
@@ -238,7 +237,8 @@ public final class LinkArchive {
         if (!u.isOfMethod() || (met != WELL && met != OTHER)) {
             return NONE;
         }
-        return nameOf(u.hasReceiver() ? u.runner(e) : u.holder(e));
+        Type holder = u.holder(e);
+        return nameOf(u.hasReceiver() ? u.runner(e, holder) : holder);
     }
 
     public int copied(int caller, int use) throws IndexOutOfBoundsException {
@@ -530,7 +530,12 @@ public final class LinkArchive {
         }
 
         boolean leansOnInterface(int interfaceName) {
-            return hasBit(interfaceNames(), interfaceName);
+            for (int i = 0; i < interfaceCount; i++) {
+                if (interfaces[i] == interfaceName) {
+                    return true;
+                }
+            }
+            return false;
         }
 
         int interfaceNames() {
@@ -548,17 +553,22 @@ public final class LinkArchive {
         }
 
         boolean dropMember(boolean method, int key) {
-            int at = placeOf(method, key);
-            if (at == NONE) {
+            Member gone = own(method, key);
+            if (gone == null) {
                 return false;
             }
-            Member gone = members[at];
-            for (int i = at + 1; i < memberCount; i++) {
-                members[i - 1] = members[i];
+            int kept = 0;
+            for (int i = 0; i < memberCount; i++) {
+                if (members[i].key != key || members[i].isMethod != method) {
+                    members[kept] = members[i];
+                    kept++;
+                }
             }
-            memberCount--;
             // The row waits behind the others to be used again.
-            members[memberCount] = gone;
+            if (kept < memberCount) {
+                members[kept] = gone;
+            }
+            memberCount = kept;
             turnKey(method, key);
             return true;
         }
@@ -571,35 +581,23 @@ public final class LinkArchive {
             }
         }
 
+        /** The keys of its own FIELDS or METHODS, as bits. */
+        long keys(boolean method) {
+            return method ? methodKeys : fieldKeys;
+        }
+
         boolean has(boolean method, int key) {
-            return key != NONE && hasBit(method ? methodKeys : fieldKeys, key);
+            return key != NONE && (((method ? methodKeys : fieldKeys) >>> key) & 1L) != 0L;
         }
 
+        /** The type's own FIELD or METHOD; null if it has none. */
         Member own(boolean method, int key) {
-            int at = placeOf(method, key);
-            return at == NONE ? null : members[at];
-        }
-
-        private int placeOf(boolean method, int key) {
-            if (!has(method, key)) {
-                return NONE;
-            }
             for (int i = 0; i < memberCount; i++) {
                 if (members[i].key == key && members[i].isMethod == method) {
-                    return i;
+                    return members[i];
                 }
             }
-            return NONE;
-        }
-
-        boolean handsDownMethod(int key) {
-            Member m = own(true, key);
-            return m != null && m.isHandedDown();
-        }
-
-        boolean hasConcreteMethod(int key) {
-            Member m = own(true, key);
-            return m != null && !m.isAbstract();
+            return null;
         }
 
         void forgetUppers() {
@@ -616,7 +614,7 @@ public final class LinkArchive {
         }
 
         boolean isUnder(int upper) {
-            return hasBit(upperNames, upper);
+            return ((upperNames >>> upper) & 1) != 0;
         }
     }
 
@@ -637,7 +635,7 @@ public final class LinkArchive {
 
         /** The type of a NAME; null if there is none. */
         Type named(int name) {
-            return isName(name) ? byName[name] : null;
+            return name >= 0 && name < NAMES ? byName[name] : null;
         }
 
         Type classNamed(int name) {
@@ -756,10 +754,19 @@ public final class LinkArchive {
             if (from == null || key == NONE) {
                 return null;
             }
-            return method ? methodFrom(from, key) : fieldFrom(from, key);
+            if (!method) {
+                return holderOfField(from, key);
+            }
+            Type nearest = nearestWithMethod(from, key);
+            if (nearest != null) {
+                return nearest;
+            }
+            int candidates = candidatesOf(from, key);
+            Type only = onlyConcrete(candidates, key);
+            return only != null ? only : firstOf(candidates);
         }
 
-        private Type fieldFrom(Type from, int key) {
+        private Type holderOfField(Type from, int key) {
             if (from.has(false, key)) {
                 return from;
             }
@@ -772,7 +779,8 @@ public final class LinkArchive {
             return null;
         }
 
-        private Type methodFrom(Type from, int key) {
+        /** The type itself, or the nearest of its SUPERS, that has a METHOD; null if none has it. */
+        private Type nearestWithMethod(Type from, int key) {
             Type t = from;
             for (int step = 0; step < MAX_TYPES && t != null; step++) {
                 if (t.has(true, key)) {
@@ -780,9 +788,7 @@ public final class LinkArchive {
                 }
                 t = named(t.superName);
             }
-            int candidates = candidatesOf(from, key);
-            Type only = onlyConcrete(candidates, key);
-            return only != null ? only : firstOf(candidates);
+            return null;
         }
 
         /** The NAMES of the CANDIDATES among the INTERFACES above a type, as bits. */
@@ -790,8 +796,9 @@ public final class LinkArchive {
             int candidates = 0;
             int aboveOthers = 0;
             for (int i = 0; i < from.upperCount; i++) {
-                Type t = interfaceNamed(from.uppers[i]);
-                if (t != null && t.handsDownMethod(key)) {
+                Type t = named(from.uppers[i]);
+                Member m = t == null || !t.isInterface ? null : t.own(true, key);
+                if (m != null && m.isHandedDown()) {
                     candidates |= 1 << t.name;
                     aboveOthers |= t.upperNames;
                 }
@@ -803,7 +810,8 @@ public final class LinkArchive {
         private Type onlyConcrete(int candidates, int key) {
             Type only = null;
             for (int i = 0; i < typeCount; i++) {
-                if (hasBit(candidates, types[i].name) && types[i].hasConcreteMethod(key)) {
+                Member m = hasBit(candidates, types[i].name) ? types[i].own(true, key) : null;
+                if (m != null && !m.isAbstract()) {
                     if (only != null) {
                         return null;
                     }
@@ -833,7 +841,8 @@ public final class LinkArchive {
             }
             Type t = receiver;
             for (int step = 0; step < MAX_TYPES && t != null; step++) {
-                if (t.handsDownMethod(key) && standsFor(t, found, m)) {
+                Member there = t.own(true, key);
+                if (there != null && there.isHandedDown() && standsFor(t, found, m)) {
                     return t;
                 }
                 t = named(t.superName);
@@ -864,23 +873,12 @@ public final class LinkArchive {
             ownRunner = NONE;
         }
 
-        /** Keeps what the CALLER's own EDITION gave when the USE was made. */
-        void rememberOwn(Edition own) {
-            Member m = foundMember(own);
-            if (kind == STATIC_FIELD && m != null && m.isConstant) {
-                copiedValue = m.body;
-            }
-            if (hasReceiver()) {
-                ownRunner = nameOf(runner(own));
-            }
-        }
-
         boolean hasReceiver() {
             return kind == METHOD_BY_CLASS || kind == METHOD_BY_INTERFACE;
         }
 
         boolean isOfMethod() {
-            return hasReceiver() || kind == STATIC_METHOD;
+            return kind == METHOD_BY_CLASS || kind == STATIC_METHOD || kind == METHOD_BY_INTERFACE;
         }
 
         private boolean wantsStatic() {
@@ -892,29 +890,30 @@ public final class LinkArchive {
             return e.found(e.named(type), isOfMethod(), key);
         }
 
-        private Member foundMember(Edition e) {
-            Type t = kind == NEW_OBJECT ? null : holder(e);
-            return t == null ? null : t.own(isOfMethod(), key);
+        /** The type whose METHOD SELECTION gives for the one that was found; null if there is none. */
+        Type runner(Edition e, Type holder) {
+            return e.selected(holder, key, e.classNamed(receiver));
         }
 
-        /** The type whose METHOD SELECTION gives; null if there is none. */
-        Type runner(Edition e) {
-            return e.selected(holder(e), key, e.classNamed(receiver));
+        /** Keeps what the CALLER's own EDITION gives. */
+        void rememberOwn(Edition own) {
+            Type holder = holder(own);
+            if (kind == STATIC_FIELD) {
+                copiedValue = constantIn(holder);
+            }
+            if (hasReceiver()) {
+                ownRunner = nameOf(runner(own, holder));
+            }
         }
 
-        boolean isOld(Edition e) {
-            Member m = foundMember(e);
-            return m == null || !m.isConstant || m.body != copiedValue;
-        }
-
-        /** The first that stands against the USE, but for what the CALLER's own EDITION gave. */
-        int hindrance(Edition e, Caller c) {
-            int met = hindranceToReach(e, c);
-            return met == WELL && hasReceiver() ? hindranceToRun(e) : met;
+        /** The value of the FIELD that was found, if it is a CONSTANT; else NONE. */
+        int constantIn(Type holder) {
+            Member m = holder == null ? null : holder.own(false, key);
+            return m == null || !m.isConstant ? NONE : m.body;
         }
 
         /** The first that stands against coming to the member, or to the new object. */
-        int hindranceToReach(Edition e, Caller c) {
+        int hindranceToReach(Edition e, Caller c, Type holder) {
             Type t = e.named(type);
             if (t == null || (hasReceiver() && e.named(receiver) == null)) {
                 return NO_TYPE;
@@ -928,7 +927,6 @@ public final class LinkArchive {
             if (kind == NEW_OBJECT) {
                 return t.isAbstract ? ABSTRACT : WELL;
             }
-            Type holder = holder(e);
             Member m = holder == null ? null : holder.own(isOfMethod(), key);
             if (m == null) {
                 return NO_MEMBER;
@@ -940,15 +938,14 @@ public final class LinkArchive {
         }
 
         /** The first that stands against running the METHOD that was reached, whoever the CALLER is. */
-        int hindranceToRun(Edition e) {
+        int hindranceToRun(Edition e, Type runner) {
             Type r = e.named(receiver);
             if (r == null) {
                 return NO_TYPE;
             }
-            if (r.isInterface || r.isAbstract || !(r.name == type || e.hasAbove(type, receiver))) {
+            if (r.isInterface || r.isAbstract || !(receiver == type || e.hasAbove(type, receiver))) {
                 return SHAPE;
             }
-            Type runner = runner(e);
             Member m = runner == null ? null : runner.own(true, key);
             if (m == null || m.isAbstract()) {
                 return ABSTRACT;
@@ -981,33 +978,29 @@ public final class LinkArchive {
 
         /** ACCESS to a member that is declared in a type. */
         boolean mayTouch(Edition e, Type holder, Member m) {
-            switch (m.access) {
-                case PUBLIC:
-                    return true;
-                case PROTECTED:
-                    return holder.pack == pack || hasSuperWithin(e, holder);
-                case PACKAGE:
-                    return holder.pack == pack;
-                default:
-                    return false;
+            if (m.access == PUBLIC || m.access == PRIVATE) {
+                return m.access == PUBLIC;
             }
-        }
-
-        private boolean hasSuperWithin(Edition e, Type holder) {
-            Type t = e.named(superName);
+            if (holder.pack == pack) {
+                return true;
+            }
+            Type t = m.access == PROTECTED ? e.named(superName) : null;
             return t != null && (t.name == holder.name || t.isUnder(holder.name));
         }
 
         /** What a USE of this CALLER meets with an EDITION. */
         int meeting(Use u, Edition e) {
+            Type holder = u.holder(e);
             if (u.copiedValue != NONE && e.number != edition) {
-                return u.isOld(e) ? OLD : WELL;
+                return u.constantIn(holder) == u.copiedValue ? WELL : OLD;
             }
-            int met = u.hindrance(e, this);
-            if (met == WELL && u.hasReceiver() && nameOf(u.runner(e)) != u.ownRunner) {
-                return OTHER;
+            int met = u.hindranceToReach(e, this, holder);
+            if (met != WELL || !u.hasReceiver()) {
+                return met;
             }
-            return met;
+            Type runner = u.runner(e, holder);
+            met = u.hindranceToRun(e, runner);
+            return met == WELL && nameOf(runner) != u.ownRunner ? OTHER : met;
         }
 
         int howManyMeet(Edition e, int what) {
@@ -1038,40 +1031,35 @@ public final class LinkArchive {
 
         private boolean newObjectsFit(Edition a, Edition b, Type t) {
             trial.begin(NEW_OBJECT, t.name, NONE, NONE);
-            return trialFits(a, b);
+            return (packsThatReach(a, null) & ~packsThatReach(b, null)) == 0;
         }
 
         private boolean membersFit(Edition a, Edition b, Type t, boolean method) {
             long keys = keysFrom(a, t, method);
-            for (int key = 0; key < KEYS; key++) {
-                if (hasBit(keys, key) && !memberFits(a, b, t, method, key)) {
-                    return false;
+            for (int key = 0; keys != 0L && key < KEYS; key++) {
+                Type holder = hasBit(keys, key) ? a.found(t, method, key) : null;
+                Member m = holder == null ? null : holder.own(method, key);
+                // A CONSTANT is copied: the other EDITION can make it OLD at most.
+                if (m != null && !m.isConstant) {
+                    // The type stands for its receivers till these are tried one by one.
+                    trial.begin(onlyKindFor(t, m), t.name, key, t.name);
+                    if (!trialFits(a, b, holder, trial.holder(b))) {
+                        return false;
+                    }
                 }
             }
             return true;
         }
 
         private static long keysFrom(Edition e, Type t, boolean method) {
-            long keys = method ? t.methodKeys : t.fieldKeys;
+            long keys = t.keys(method);
             for (int i = 0; i < t.upperCount; i++) {
                 Type upper = e.named(t.uppers[i]);
                 if (upper != null) {
-                    keys |= method ? upper.methodKeys : upper.fieldKeys;
+                    keys |= upper.keys(method);
                 }
             }
             return keys;
-        }
-
-        private boolean memberFits(Edition a, Edition b, Type t, boolean method, int key) {
-            Type holder = a.found(t, method, key);
-            Member m = holder == null ? null : holder.own(method, key);
-            // A CONSTANT is copied: the other EDITION can make it OLD at most.
-            if (m == null || m.isConstant) {
-                return true;
-            }
-            // A receiver is there wherever the type is, until the receivers are tried one by one.
-            trial.begin(onlyKindFor(t, m), t.name, key, t.name);
-            return trialFits(a, b);
         }
 
         /** The one KIND of which a USE of the member by a type can be WELL. */
@@ -1085,34 +1073,38 @@ public final class LinkArchive {
             return t.isInterface ? METHOD_BY_INTERFACE : METHOD_BY_CLASS;
         }
 
-        private boolean trialFits(Edition a, Edition b) {
-            int packs = packsThatReach(a);
+        private boolean trialFits(Edition a, Edition b, Type holder, Type holderThere) {
+            int packs = packsThatReach(a, holder);
             if (packs == 0) {
                 return true;
             }
-            boolean allReach = (packs & ~packsThatReach(b)) == 0;
-            return trial.hasReceiver() ? receiversFit(a, b, allReach) : allReach;
+            boolean allReach = (packs & ~packsThatReach(b, holderThere)) == 0;
+            if (!trial.hasReceiver()) {
+                return allReach;
+            }
+            for (int i = 0; i < a.typeCount; i++) {
+                trial.receiver = a.types[i].name;
+                Type runner = a.selected(holder, trial.key, a.classNamed(trial.receiver));
+                if (trial.hindranceToRun(a, runner) == WELL) {
+                    Type runnerThere = b.selected(holderThere, trial.key, b.classNamed(trial.receiver));
+                    if (!allReach || trial.hindranceToRun(b, runnerThere) != WELL) {
+                        return false;
+                    }
+                }
+            }
+            return true;
         }
 
-        private int packsThatReach(Edition e) {
+        /** The PACKAGES, as bits, of the CALLERS that come to the trial's member or new object. */
+        private int packsThatReach(Edition e, Type holder) {
             int packs = 0;
             for (int pack = 0; pack < CALLER_PACKAGES; pack++) {
                 caller.begin(e.number, pack, NONE);
-                if (trial.hindranceToReach(e, caller) == WELL) {
+                if (trial.hindranceToReach(e, caller, holder) == WELL) {
                     packs |= 1 << pack;
                 }
             }
             return packs;
-        }
-
-        private boolean receiversFit(Edition a, Edition b, boolean allReach) {
-            for (int i = 0; i < a.typeCount; i++) {
-                trial.receiver = a.types[i].name;
-                if (trial.hindranceToRun(a) == WELL && !(allReach && trial.hindranceToRun(b) == WELL)) {
-                    return false;
-                }
-            }
-            return true;
         }
     }
 
@@ -1156,7 +1148,13 @@ public final class LinkArchive {
             count = 0;
             Arrays.fill(whither, NONE);
             Arrays.fill(taken, 0L);
-            takeMoves(a, b);
+            for (int name = 0; name < NAMES; name++) {
+                Type t = a.named(name);
+                if (t != null) {
+                    takeMoves(a, b, t, false);
+                    takeMoves(a, b, t, true);
+                }
+            }
             for (int name = 0; name < NAMES; name++) {
                 tellType(a.named(name), b.named(name));
             }
@@ -1189,21 +1187,12 @@ public final class LinkArchive {
 
         // ---- moves ----
 
-        private void takeMoves(Edition a, Edition b) {
-            for (int name = 0; name < NAMES; name++) {
-                Type t = a.named(name);
-                if (t != null) {
-                    takeMovesFrom(a, b, t, false);
-                    takeMovesFrom(a, b, t, true);
-                }
-            }
-        }
-
-        private void takeMovesFrom(Edition a, Edition b, Type t, boolean method) {
+        private void takeMoves(Edition a, Edition b, Type t, boolean method) {
             Type later = b.named(t.name);
-            for (int key = 0; key < KEYS; key++) {
-                Member m = t.own(method, key);
-                if (m != null && (later == null || !later.has(method, key))) {
+            long gone = t.keys(method) & ~(later == null ? 0L : later.keys(method));
+            for (int key = 0; gone != 0L && key < KEYS; key++) {
+                Member m = hasBit(gone, key) ? t.own(method, key) : null;
+                if (m != null) {
                     takeMove(a, b, t, m);
                 }
             }
@@ -1282,8 +1271,9 @@ public final class LinkArchive {
         }
 
         private void tellMoves(Type ta, boolean method) {
-            for (int key = 0; key < KEYS; key++) {
-                int goal = whither[spotOf(ta.name, method, key)];
+            long had = ta.keys(method);
+            for (int key = 0; had != 0L && key < KEYS; key++) {
+                int goal = hasBit(had, key) ? whither[spotOf(ta.name, method, key)] : NONE;
                 if (goal != NONE) {
                     tell(MEMBER_MOVED, ta.name, method, key, goal);
                 }
@@ -1291,17 +1281,24 @@ public final class LinkArchive {
         }
 
         private void tellMembers(Type ta, Type tb, boolean method) {
-            for (int key = 0; key < KEYS; key++) {
-                Member ma = ta.own(method, key);
-                Member mb = tb.own(method, key);
-                if (ma != null && mb != null) {
-                    tellChangedMember(ta.name, ma, mb);
-                } else if (ma != null) {
-                    int goal = whither[spotOf(ta.name, method, key)];
-                    tell(goal == NONE ? MEMBER_GONE : MEMBER_MOVED, ta.name, method, key, goal);
-                } else if (mb != null && !hasBit(taken[rowOf(tb.name, method)], key)) {
-                    tell(MEMBER_NEW, tb.name, method, key, NONE);
+            long either = ta.keys(method) | tb.keys(method);
+            for (int key = 0; either != 0L && key < KEYS; key++) {
+                if (hasBit(either, key)) {
+                    tellMember(ta, tb, method, key);
                 }
+            }
+        }
+
+        private void tellMember(Type ta, Type tb, boolean method, int key) {
+            Member ma = ta.own(method, key);
+            Member mb = tb.own(method, key);
+            if (ma != null && mb != null) {
+                tellChangedMember(ta.name, ma, mb);
+            } else if (ma != null) {
+                int goal = whither[spotOf(ta.name, method, key)];
+                tell(goal == NONE ? MEMBER_GONE : MEMBER_MOVED, ta.name, method, key, goal);
+            } else if (mb != null && !hasBit(taken[rowOf(tb.name, method)], key)) {
+                tell(MEMBER_NEW, tb.name, method, key, NONE);
             }
         }
 
