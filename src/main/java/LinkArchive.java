@@ -1031,7 +1031,7 @@ public final class LinkArchive {
 
         private boolean newObjectsFit(Edition a, Edition b, Type t) {
             trial.begin(NEW_OBJECT, t.name, NONE, NONE);
-            return (packsThatReach(a, null) & ~packsThatReach(b, null)) == 0;
+            return trialFits(a, b, null, null);
         }
 
         private boolean membersFit(Edition a, Edition b, Type t, boolean method) {
@@ -1073,13 +1073,18 @@ public final class LinkArchive {
             return t.isInterface ? METHOD_BY_INTERFACE : METHOD_BY_CLASS;
         }
 
+        /** Whether the trial, of whatever PACKAGE and RECEIVER it is WELL with a, is not broken by b. */
         private boolean trialFits(Edition a, Edition b, Type holder, Type holderThere) {
-            int packs = packsThatReach(a, holder);
-            if (packs == 0) {
-                return true;
+            boolean anyReaches = false;
+            boolean allReach = true;
+            for (int pack = 0; pack < CALLER_PACKAGES; pack++) {
+                caller.begin(a.number, pack, NONE);
+                if (trial.hindranceToReach(a, caller, holder) == WELL) {
+                    anyReaches = true;
+                    allReach = allReach && trial.hindranceToReach(b, caller, holderThere) == WELL;
+                }
             }
-            boolean allReach = (packs & ~packsThatReach(b, holderThere)) == 0;
-            if (!trial.hasReceiver()) {
+            if (!anyReaches || !trial.hasReceiver()) {
                 return allReach;
             }
             for (int i = 0; i < a.typeCount; i++) {
@@ -1093,18 +1098,6 @@ public final class LinkArchive {
                 }
             }
             return true;
-        }
-
-        /** The PACKAGES, as bits, of the CALLERS that come to the trial's member or new object. */
-        private int packsThatReach(Edition e, Type holder) {
-            int packs = 0;
-            for (int pack = 0; pack < CALLER_PACKAGES; pack++) {
-                caller.begin(e.number, pack, NONE);
-                if (trial.hindranceToReach(e, caller, holder) == WELL) {
-                    packs |= 1 << pack;
-                }
-            }
-            return packs;
         }
     }
 
