@@ -963,7 +963,6 @@ public final class LinkArchive {
         int useCount;
 
         Caller() {
-            superName = NONE;
             for (int i = 0; i < MAX_USES; i++) {
                 uses[i] = new Use();
             }

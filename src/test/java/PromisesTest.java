@@ -45,6 +45,7 @@ public final class PromisesTest {
         promise20Edges();
         promise21();
         promise21Receivers();
+        promise21Seldom();
         promise22To24();
         aCallThatThrowsChangesNothing();
         fullestArchive();
@@ -299,6 +300,7 @@ public final class PromisesTest {
         due("7: one type", 1, () -> x.look(0, 1));
         due("7: no members", 0, () -> x.look(0, 2));
         plain(x, 0, 1, NONE);
+        due("7: nor has a type that comes anew any", 0, () -> x.look(0, 2));
         sealed(x, 0);
         due("7: a type that comes anew is empty", NONE, () -> x.find(0, 1, true, 4, 1));
         refused("7: sealed", STATE, () -> bit(x.drop(0, 1, 9, 0, 0)));
@@ -358,6 +360,42 @@ public final class PromisesTest {
         refused("8: sealed already", STATE, () -> x.seal(0));
         x.edition();
         due("8: an empty edition", NONE, () -> x.seal(1));
+        x.edition();
+        plain(x, 2, 4, 5);
+        due("8: the first type leans on nothing", 4, () -> x.seal(2));
+        sealingAgainForgetsWhatWasAbove();
+    }
+
+    private static void sealingAgainForgetsWhatWasAbove() {
+        LinkArchive x = withEdition();
+        face(x, 0, 1);
+        face(x, 0, 2);
+        plain(x, 0, 3, NONE);
+        x.implement(0, 3, 1);
+        x.implement(0, 3, 2);
+        x.implement(0, 2, 2);
+        x.member(0, 1, FIELD, 0, 0, 3, true, 0);
+        x.member(0, 2, FIELD, 0, 0, 3, true, 0);
+        due("8: 2 is above itself", 2, () -> x.seal(0));
+        x.drop(0, 2, 2, 0, 0);
+        face(x, 0, 2);
+        x.member(0, 2, FIELD, 0, 0, 3, true, 0);
+        x.drop(0, 3, 2, 0, 0);
+        plain(x, 0, 3, NONE);
+        x.implement(0, 3, 2);
+        face(x, 0, 4);
+        x.implement(0, 4, 2);
+        x.implement(0, 4, 4);
+        due("8: 4 is above itself", 4, () -> x.seal(0));
+        x.implement(0, 3, 1);
+        x.drop(0, 4, 2, 0, 0);
+        sealed(x, 0);
+        due("8: the order is that of the last sealing", 2, () -> x.find(0, 3, false, 0, 0));
+        x.copy(0);
+        x.drop(1, 3, 2, 0, 0);
+        plain(x, 1, 3, NONE);
+        sealed(x, 1);
+        due("8: nothing is above it any more", 0, () -> bit(x.above(1, 2, 3)));
     }
 
     /** 0 over 1 over 2 (classes), 2 has 5, 5 has 4 and 3, 1 has 6 (interfaces); 7 stands alone. */
@@ -454,6 +492,25 @@ public final class PromisesTest {
         due("10: a candidate above another is none", 5, () -> x.find(0, 2, true, 6, 0));
         due("10: from an interface on", 3, () -> x.find(0, 5, true, 2, 0));
         due("10: not from below", NONE, () -> x.find(0, 0, true, 2, 0));
+        LinkArchive y = withEdition();
+        face(y, 0, 0);
+        plain(y, 0, 1, NONE);
+        y.implement(0, 1, 0);
+        method(y, 0, 0, 0, 3, -1);
+        sealed(y, 0);
+        due("10: a candidate of the name 0", 0, () -> y.find(0, 1, true, 0, 0));
+        LinkArchive z = withEdition();
+        for (int i = 0; i < 10; i++) {
+            plain(z, 0, i, i - 1);
+        }
+        method(z, 0, 0, 0, 3, 1);
+        z.member(0, 0, FIELD, 0, 0, 3, true, 1);
+        sealed(z, 0);
+        due("10: a method at the top of ten", 0, () -> z.find(0, 9, true, 0, 0));
+        due("10: a field at the top of ten", 0, () -> z.find(0, 9, false, 0, 0));
+        due("10: nothing at the top of ten", NONE, () -> z.find(0, 9, true, 1, 0));
+        due("10: no field at the top of ten", NONE, () -> z.find(0, 9, false, 1, 0));
+        due("11: selected at the top of ten", 0, () -> z.select(0, 0, 0, 0, 9));
     }
 
     private static void promise11() {
@@ -481,6 +538,10 @@ public final class PromisesTest {
         method(x, 0, 3, 2, 3, 1);
         x.member(0, 0, METHOD, 6, 0, 3, true, 1);
         x.member(0, 0, METHOD, 7, 0, 0, true, 1);
+        method(x, 0, 1, 5, 1, 2);
+        x.type(0, 5, false, false, 1, true, NONE);
+        plain(x, 0, 6, 5);
+        method(x, 0, 5, 0, 1, 1);
         refused("11: open", STATE, () -> x.select(0, 0, 0, 0, 2));
         sealed(x, 0);
         refused("11: no such edition", INDEX, () -> x.select(1, 0, 0, 0, 2));
@@ -492,11 +553,13 @@ public final class PromisesTest {
         due("11: none of the classes, one of the candidates", 3, () -> x.select(0, 4, 3, 0, 2));
         due("11: two candidates with a body", NONE, () -> x.select(0, 3, 4, 0, 2));
         due("11: an abstract one can be given", 2, () -> x.select(0, 0, 5, 0, 2));
-        due("11: upwards from the receiver alone", 0, () -> x.select(0, 0, 5, 0, 1));
+        due("11: of a public one, one of another package", 1, () -> x.select(0, 0, 5, 0, 1));
+        due("11: upwards from the receiver alone", 0, () -> x.select(0, 0, 5, 0, 0));
+        due("11: a class is no candidate", NONE, () -> x.select(0, 0, 0, 0, 6));
         due("11: no candidates", NONE, () -> x.select(0, 3, 3, 0, 1));
         due("11: a static one gives none", NONE, () -> x.select(0, 0, 6, 0, 0));
         due("11: a private static one gives itself", 0, () -> x.select(0, 0, 7, 0, 0));
-        due("11: the type has it not itself", NONE, () -> x.select(0, 1, 5, 0, 2));
+        due("11: the type has it not itself", NONE, () -> x.select(0, 1, 4, 0, 2));
         due("11: a receiver that is an interface", NONE, () -> x.select(0, 3, 3, 0, 4));
         due("11: likewise of a private one", NONE, () -> x.select(0, 0, 2, 0, 3));
         due("11: a receiver that is not there", NONE, () -> x.select(0, 0, 2, 0, 9));
@@ -894,6 +957,12 @@ public final class PromisesTest {
         refused("17: open", STATE, () -> x.meets(0, 4, 77));
         refused("18: no such caller", INDEX, () -> x.best(1, true));
         refused("18: no such caller", INDEX, () -> x.best(-1, false));
+        for (int i = 5; i < 8; i++) {
+            x.copy(1);
+            sealed(x, i);
+        }
+        due("18: the newest of eight", 7, () -> x.best(0, false));
+        due("18: the oldest of eight", 1, () -> x.best(0, true));
     }
 
     private static void promise19And20Types() {
@@ -977,6 +1046,20 @@ public final class PromisesTest {
     }
 
     private static void movesUpDownAndOut() {
+        LinkArchive y = withEdition();
+        plain(y, 0, 0, NONE);
+        plain(y, 0, 1, 0);
+        method(y, 0, 1, 0, 3, 1);
+        y.member(0, 0, FIELD, 0, 0, 3, true, 1);
+        sealed(y, 0);
+        y.edition();
+        plain(y, 1, 0, NONE);
+        method(y, 1, 0, 0, 3, 1);
+        plain(y, 1, 2, 0);
+        y.member(1, 2, FIELD, 0, 0, 3, true, 1);
+        sealed(y, 1);
+        differences("20: the least names", y, 0, 1, row(10, 0, 0, 0, 2, 0), row(1, 1, NONE, NONE, NONE, 0),
+                row(10, 1, 0, 0, 0, 1), row(2, 2, NONE, NONE, NONE, 0));
         LinkArchive x = withEdition();
         plain(x, 0, 5, NONE);
         plain(x, 0, 6, 5);
@@ -1190,6 +1273,42 @@ public final class PromisesTest {
         due("21: without receivers a method can go", 1, () -> bit(x.compatible(5, methodless(x))));
     }
 
+    private static void promise21Seldom() {
+        LinkArchive x = withEdition();
+        x.type(0, 3, false, false, 0, false, NONE);
+        face(x, 0, 1);
+        x.implement(0, 3, 1);
+        method(x, 0, 1, 0, 3, -1);
+        method(x, 0, 3, 0, 3, 1);
+        sealed(x, 0);
+        x.copy(0);
+        x.drop(1, 3, METHOD, 0, 0);
+        method(x, 1, 3, 0, 2, 1);
+        sealed(x, 1);
+        due("21: by the interface alone it breaks", 0, () -> bit(x.compatible(0, 1)));
+        due("21: and the other way not", 1, () -> bit(x.compatible(1, 0)));
+        x.edition();
+        x.type(2, 0, false, true, 0, true, NONE);
+        x.type(2, 1, false, true, 0, true, 0);
+        x.member(2, 0, FIELD, 0, 0, 3, true, 1);
+        x.member(2, 0, FIELD, 1, 0, 2, true, 1);
+        method(x, 2, 0, 2, 0, 1);
+        plain(x, 2, 4, 0);
+        sealed(x, 2);
+        x.copy(2);
+        x.drop(3, 1, 2, 0, 0);
+        x.type(3, 1, false, true, 0, true, NONE);
+        sealed(x, 3);
+        due("21: what a type had from above", 0, () -> bit(x.compatible(2, 3)));
+        x.copy(2);
+        x.drop(4, 0, METHOD, 2, 0);
+        x.drop(4, 0, FIELD, 1, 0);
+        x.member(4, 0, FIELD, 1, 0, 1, true, 1);
+        sealed(x, 4);
+        due("21: a private method may go, a protected field become of the package", 1,
+                () -> bit(x.compatible(2, 4)));
+    }
+
     /** An edition in which the types are left, but not the method that no receiver could run. */
     private static int methodless(LinkArchive x) {
         int e = x.copy(5);
@@ -1276,6 +1395,13 @@ public final class PromisesTest {
         due("the last of them", 13, () -> x.difference(0, 1, 10 * 21 + 17, 0));
         due("and its type", 9, () -> x.difference(0, 1, 10 * 21 + 17, 1));
         due("it does not fit", 0, () -> bit(x.compatible(0, 1)));
+        x.copy(1);
+        sealed(x, 2);
+        due("a copy of all that does not differ", 0, () -> x.differ(1, 2));
+        due("and fits", 1, () -> bit(x.compatible(1, 2)));
+        x.copy(0);
+        sealed(x, 3);
+        due("a copy of all classes fits", 1, () -> bit(x.compatible(0, 3)));
         due("found at the top", 9, () -> x.find(1, 9, true, 5, 0));
         due("the top is above the bottom", 1, () -> bit(x.above(1, 0, 9)));
     }
