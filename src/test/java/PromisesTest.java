@@ -1,22 +1,9 @@
-import java.util.NoSuchElementException;
-
 /** The promises one by one, by hand: ordinary inputs, the edges that the document names, and wrong inputs. */
-public final class PromisesTest {
-    private static final Class<IndexOutOfBoundsException> INDEX = IndexOutOfBoundsException.class;
-    private static final Class<IllegalStateException> STATE = IllegalStateException.class;
-    private static final Class<IllegalArgumentException> ARGUMENT = IllegalArgumentException.class;
-    private static final Class<UnsupportedOperationException> FULL = UnsupportedOperationException.class;
-    private static final Class<NoSuchElementException> NO_ELEMENT = NoSuchElementException.class;
-
-    private static final int NONE = LinkArchive.NONE;
-    private static final int FIELD = 0;
-    private static final int METHOD = 1;
-    private static final int CONSTANT = 2;
+public final class PromisesTest extends ArchiveCalls {
     private static final int[] WRONG = {-2, -1, 16, 99, Integer.MIN_VALUE, Integer.MAX_VALUE};
 
-    private static final Check CHECK = new Check("PromisesTest");
-
     public static void main(String[] args) {
+        begin("PromisesTest");
         promise1();
         promise2();
         promise3();
@@ -49,61 +36,7 @@ public final class PromisesTest {
         promise22To24();
         aCallThatThrowsChangesNothing();
         fullestArchive();
-        CHECK.finish();
-    }
-
-    // ---- short ways to say things ----
-
-    private static void due(String what, long want, Check.Call call) {
-        CHECK.due(what, want, call);
-    }
-
-    private static void refused(String what, Class<? extends RuntimeException> want, Check.Call call) {
-        CHECK.refused(what, want, call);
-    }
-
-    private static int bit(boolean answer) {
-        return answer ? 1 : 0;
-    }
-
-    /** A public CLASS of package 0 that is not abstract. */
-    private static void plain(LinkArchive x, int e, int name, int superName) {
-        x.type(e, name, false, false, 0, true, superName);
-    }
-
-    /** A public INTERFACE of package 0. */
-    private static void face(LinkArchive x, int e, int name) {
-        x.type(e, name, true, false, 0, true, NONE);
-    }
-
-    /** A METHOD of an object. */
-    private static void method(LinkArchive x, int e, int type, int name, int access, int body) {
-        x.member(e, type, METHOD, name, 0, access, false, body);
-    }
-
-    private static LinkArchive withEdition() {
-        LinkArchive x = new LinkArchive();
-        x.edition();
-        return x;
-    }
-
-    private static void sealed(LinkArchive x, int e) {
-        due("seal(" + e + ")", NONE, () -> x.seal(e));
-    }
-
-    private static void differences(String what, LinkArchive x, int a, int b, int[]... rows) {
-        due(what + ": differ", rows.length, () -> x.differ(a, b));
-        for (int i = 0; i < rows.length; i++) {
-            for (int column = 0; column < 6; column++) {
-                int row = i;
-                int cell = column;
-                due(what + ": difference " + i + ", " + column, rows[i][column], () -> x.difference(a, b, row, cell));
-            }
-        }
-    }
-
-    private static int[] row(int... cells) {
-        return cells;
+        finish();
     }
 
     // ---- the promises ----
@@ -698,7 +631,7 @@ public final class PromisesTest {
         x.use(0, 2, 1, 2, 0, 2);
         x.use(0, 5, 2, 0, 0, 0);
         int[] well = {0, 0, 0, 0};
-        foretold("its own", x, 0, well);
+        foretold("14: its own", x, 0, 0, well);
         x.copy(0);
         refused("14: open", STATE, () -> x.foretell(0, 1, 0));
         refused("14: no such use ahead of open", INDEX, () -> x.foretell(0, 1, 4));
@@ -708,42 +641,35 @@ public final class PromisesTest {
         refused("14: no such edition", INDEX, () -> x.foretell(0, -1, 0));
         x.drop(1, 2, 2, 0, 0);
         sealed(x, 1);
-        foretold("2 is gone", x, 1, 1, 1, 1, 1);
+        foretold("14: 2 is gone", x, 0, 1, 1, 1, 1, 1);
         x.copy(1);
         x.type(2, 2, false, true, 1, false, 1);
         sealed(x, 2);
-        foretold("2 is not public", x, 2, 3, 3, 6, 3);
+        foretold("14: 2 is not public", x, 0, 2, 3, 3, 6, 3);
         x.copy(1);
         x.type(3, 2, false, true, 1, true, 1);
         for (int i = 0; i < 3; i++) {
             x.drop(3, 1, i == 0 ? FIELD : METHOD, i, 0);
         }
         sealed(x, 3);
-        foretold("no members, 2 abstract", x, 3, 2, 2, 2, 5);
+        foretold("14: no members, 2 abstract", x, 0, 3, 2, 2, 2, 5);
         x.copy(3);
         x.member(4, 1, FIELD, 0, 0, 2, true, 0);
         x.member(4, 1, METHOD, 1, 0, 1, false, 0);
         method(x, 4, 1, 2, 0, 0);
         sealed(x, 4);
-        foretold("out of reach: ahead of static", x, 4, 3, 3, 3, 5);
+        foretold("14: out of reach: ahead of static", x, 0, 4, 3, 3, 3, 5);
         x.copy(3);
         x.member(5, 1, FIELD, 0, 0, 3, true, 0);
         x.member(5, 1, METHOD, 1, 0, 3, false, 0);
         x.member(5, 1, METHOD, 2, 0, 3, true, 0);
         sealed(x, 5);
-        foretold("static or not", x, 5, 4, 4, 4, 5);
+        foretold("14: static or not", x, 0, 5, 4, 4, 4, 5);
         x.edition();
         face(x, 6, 1);
         face(x, 6, 2);
         sealed(x, 6);
-        foretold("interfaces", x, 6, 2, 2, 6, 5);
-    }
-
-    private static void foretold(String what, LinkArchive x, int e, int... want) {
-        for (int i = 0; i < want.length; i++) {
-            int use = i;
-            due("14: " + what + ": use " + i, want[i], () -> x.foretell(0, e, use));
-        }
+        foretold("14: interfaces", x, 0, 6, 2, 2, 6, 5);
     }
 
     private static void promise14Receivers() {
@@ -763,42 +689,42 @@ public final class PromisesTest {
         x.member(1, 3, METHOD, 0, 0, 2, false, 1);
         x.drop(1, 3, METHOD, 1, 0);
         sealed(x, 1);
-        foretold("not public by an interface; by a class another type's", x, 1, 3, 8);
+        foretold("14: not public by an interface; by a class another type's", x, 0, 1, 3, 8);
         x.copy(0);
         x.member(2, 2, METHOD, 0, 0, 3, false, 1);
         x.drop(2, 3, METHOD, 1, 0);
         method(x, 2, 3, 1, 2, 9);
         sealed(x, 2);
-        foretold("a class's one runs; another body is none of this", x, 2, 8, 0);
+        foretold("14: a class's one runs; another body is none of this", x, 0, 2, 8, 0);
         x.copy(0);
         x.drop(3, 1, METHOD, 0, 0);
         method(x, 3, 1, 0, 3, -1);
         x.drop(3, 3, METHOD, 1, 0);
         method(x, 3, 3, 1, 3, -1);
         sealed(x, 3);
-        foretold("abstract", x, 3, 5, 5);
+        foretold("14: abstract", x, 0, 3, 5, 5);
         x.copy(0);
         x.drop(4, 3, 2, 0, 0);
         x.type(4, 3, false, true, 0, true, 2);
         x.implement(4, 3, 1);
         sealed(x, 4);
-        foretold("an abstract receiver", x, 4, 6, 6);
+        foretold("14: an abstract receiver", x, 0, 4, 6, 6);
         x.copy(0);
         x.drop(5, 3, 2, 0, 0);
         plain(x, 5, 3, NONE);
         sealed(x, 5);
-        foretold("a receiver that is no longer below", x, 5, 6, 6);
+        foretold("14: a receiver that is no longer below", x, 0, 5, 6, 6);
         x.copy(0);
         x.drop(6, 3, 2, 0, 0);
         face(x, 6, 3);
         x.implement(6, 3, 1);
         sealed(x, 6);
-        foretold("a receiver that is an interface", x, 6, 6, 6);
+        foretold("14: a receiver that is an interface", x, 0, 6, 6, 6);
         x.copy(0);
         x.drop(7, 3, 2, 0, 0);
         x.drop(7, 1, METHOD, 0, 0);
         sealed(x, 7);
-        foretold("no receiver, ahead of no member", x, 7, 1, 1);
+        foretold("14: no receiver, ahead of no member", x, 0, 7, 1, 1);
     }
 
     private static void promise14Constants() {
@@ -811,37 +737,37 @@ public final class PromisesTest {
         x.caller(0, 4, NONE);
         x.use(0, 1, 2, 0, 0, 0);
         x.use(0, 1, 2, 1, 0, 0);
-        foretold("its own", x, 0, 0, 0);
+        foretold("14: its own", x, 0, 0, 0, 0);
         x.edition();
         sealed(x, 1);
-        foretold("no type: the copied one is old", x, 1, 9, 1);
+        foretold("14: no type: the copied one is old", x, 0, 1, 9, 1);
         x.edition();
         x.type(2, 2, false, true, 0, false, NONE);
         x.member(2, 2, CONSTANT, 0, 0, 0, true, 4);
         x.member(2, 2, CONSTANT, 1, 0, 3, true, 4);
         sealed(x, 2);
-        foretold("nothing is looked for: private, in a type that is not public", x, 2, 0, 3);
+        foretold("14: nothing is looked for: private, in a type that is not public", x, 0, 2, 0, 3);
         x.copy(0);
         x.drop(3, 1, FIELD, 0, 0);
         x.member(3, 1, FIELD, 0, 0, 3, true, 4);
         x.drop(3, 1, FIELD, 1, 0);
         x.member(3, 1, CONSTANT, 1, 0, 3, true, 9);
         sealed(x, 3);
-        foretold("no constant any more, and a new one", x, 3, 9, 0);
+        foretold("14: no constant any more, and a new one", x, 0, 3, 9, 0);
         x.copy(0);
         x.drop(4, 1, FIELD, 0, 0);
         x.member(4, 1, CONSTANT, 0, 0, 3, true, 5);
         sealed(x, 4);
-        foretold("another value", x, 4, 9, 0);
+        foretold("14: another value", x, 0, 4, 9, 0);
         x.copy(0);
         x.drop(5, 1, FIELD, 0, 0);
         x.drop(5, 1, FIELD, 1, 0);
         sealed(x, 5);
-        foretold("no field", x, 5, 9, 2);
+        foretold("14: no field", x, 0, 5, 9, 2);
         x.copy(0);
         x.member(6, 2, CONSTANT, 0, 0, 3, true, 3);
         sealed(x, 6);
-        foretold("another constant is found first", x, 6, 9, 0);
+        foretold("14: another constant is found first", x, 0, 6, 9, 0);
     }
 
     private static void promise15() {
