@@ -594,6 +594,8 @@ public final class EditionEdgesTest extends ArchiveCalls {
         nameAndSortCountForNothingOfAType();
         eachTypeOfTenCanGo();
         eachMemberOfSixCanGo();
+        whatComesAnewIsEmpty();
+        roomThatWasLeftIsFilledAgain();
     }
 
     private static void dropsAreOfOpenEditions() {
@@ -725,6 +727,56 @@ public final class EditionEdgesTest extends ArchiveCalls {
         }
     }
 
+    private static void whatComesAnewIsEmpty() {
+        LinkArchive x = withType();
+        for (int m = 0; m < 6; m++) {
+            x.member(0, 1, m % 2, m, 0, PUBLIC, true, m);
+        }
+        x.drop(0, 1, WHOLE_TYPE, 0, 0);
+        plain(x, 0, 2, NONE);
+        for (int m = 0; m < 6; m++) {
+            int name = m;
+            no("7: nothing of the type that is gone, " + m, () -> x.drop(0, 2, name % 2, name, 0));
+            due("7: each may come again, " + m, m + 1, () -> x.member(0, 2, name % 2, name, 0, PUBLIC, true, name));
+        }
+        refused("7: up to six", FULL, () -> x.member(0, 2, FIELD, 9, 0, PUBLIC, true, 0));
+    }
+
+    private static void roomThatWasLeftIsFilledAgain() {
+        LinkArchive x = withType();
+        LinkArchive y = withEdition();
+        for (int i = 0; i < 6; i++) {
+            x.member(0, 1, FIELD, i, 0, PUBLIC, true, i);
+            plain(y, 0, i, NONE);
+        }
+        for (int i = 0; i < 4; i++) {
+            x.drop(0, 1, FIELD, i, 0);
+            y.drop(0, i, WHOLE_TYPE, 0, 0);
+        }
+        for (int i = 0; i < 3; i++) {
+            x.member(0, 1, METHOD, i, 1, PUBLIC, true, i);
+            face(y, 0, 10 + i);
+            y.implement(0, 4, 10 + i);
+        }
+        sealed(x, 0);
+        sealed(y, 0);
+        for (int i = 0; i < 6; i++) {
+            int name = i;
+            due("7: field " + i, i < 4 ? NONE : 1, () -> x.find(0, 1, false, name, 0));
+            due("7: method " + i, i < 3 ? 1 : NONE, () -> x.find(0, 1, true, name, 1));
+            due("7: interface " + (10 + i), bit(i < 3), () -> bit(y.above(0, 10 + name, 4)));
+        }
+        due("7: five members", 5, () -> x.look(0, 2));
+        x.edition();
+        plain(x, 1, 1, NONE);
+        for (int i = 0; i < 5; i++) {
+            x.member(1, 1, i < 3 ? METHOD : FIELD, i < 3 ? i : i + 1, i < 3 ? 1 : 0, PUBLIC, true, i < 3 ? i : i + 1);
+        }
+        sealed(x, 1);
+        due("7: the same as if the others had never been", 0, () -> x.differ(0, 1));
+        due("7: five types", 5, () -> y.look(0, 1));
+    }
+
     // ---- promise 8 ----
 
     private static void seals() {
@@ -736,6 +788,7 @@ public final class EditionEdgesTest extends ArchiveCalls {
         whatIsNotRightIsToldAheadOfWhatIsAboveItself();
         theFirstByTheOrderOfTypesIsTold();
         whatCannotBeSealedStaysOpen();
+        whatWasAboveIsForgotten();
     }
 
     private static void onlyAnOpenEditionIsSealed() {
@@ -906,5 +959,33 @@ public final class EditionEdgesTest extends ArchiveCalls {
         due("8: till it can be sealed", NONE, () -> x.seal(0));
         yes("8: with what is above now", () -> x.above(0, 1, 2));
         no("8: and not what was", () -> x.above(0, 2, 1));
+    }
+
+    /** Sealing fails while much is above type 9, and is done when little is. */
+    private static void whatWasAboveIsForgotten() {
+        LinkArchive x = withEdition();
+        for (int i = 0; i < 3; i++) {
+            face(x, 0, i);
+            x.member(0, i, FIELD, i, 0, PUBLIC, true, 0);
+            method(x, 0, i, i, PUBLIC, 1);
+        }
+        face(x, 0, 9);
+        for (int i = 0; i < 3; i++) {
+            x.implement(0, 9, i);
+        }
+        face(x, 0, 10);
+        x.implement(0, 10, 10);
+        due("8: 10 is above itself", 10, () -> x.seal(0));
+        x.drop(0, 10, WHOLE_TYPE, 0, 0);
+        x.drop(0, 9, WHOLE_TYPE, 0, 0);
+        face(x, 0, 9);
+        x.implement(0, 9, 1);
+        sealed(x, 0);
+        for (int i = 0; i < 3; i++) {
+            int name = i;
+            due("8: above 9: " + i, bit(i == 1), () -> bit(x.above(0, name, 9)));
+            due("8: a field of " + i, i == 1 ? 1 : NONE, () -> x.find(0, 9, false, name, 0));
+            due("8: a method of " + i, i == 1 ? 1 : NONE, () -> x.find(0, 9, true, name, 0));
+        }
     }
 }

@@ -173,6 +173,7 @@ public final class FindingEdgesTest extends ArchiveCalls {
         justOneIsNotAbstract();
         aCandidateAboveAnotherIsNone();
         anInterfacesOwnIsAskedFirst();
+        atTheTopOfTen();
     }
 
     private static void fromAClassItsOwnOrTheNearest() {
@@ -270,6 +271,28 @@ public final class FindingEdgesTest extends ArchiveCalls {
         due("10: one that has nothing above", 0, () -> x.find(0, 0, true, 0, 0));
     }
 
+    private static void atTheTopOfTen() {
+        LinkArchive classes = withEdition();
+        LinkArchive faces = withEdition();
+        for (int t = 0; t < 10; t++) {
+            plain(classes, 0, t, t - 1);
+            face(faces, 0, t);
+            if (t > 0) {
+                faces.implement(0, t, t - 1);
+            }
+        }
+        for (LinkArchive x : new LinkArchive[] {classes, faces}) {
+            x.member(0, 0, FIELD, 0, 0, PUBLIC, true, 1);
+            method(x, 0, 0, 0, PUBLIC, 1);
+            sealed(x, 0);
+            due("10: a field at the top of ten", 0, () -> x.find(0, 9, false, 0, 0));
+            due("10: a method there", 0, () -> x.find(0, 9, true, 0, 0));
+            due("10: no field there", NONE, () -> x.find(0, 9, false, 1, 0));
+            due("10: no method there", NONE, () -> x.find(0, 9, true, 1, 0));
+        }
+        due("11: selected at the top of ten", 0, () -> classes.select(0, 0, 0, 0, 9));
+    }
+
     // ---- promise 11 ----
 
     private static void selecting() {
@@ -279,6 +302,7 @@ public final class FindingEdgesTest extends ArchiveCalls {
         accessAbove1OrOnePackage();
         staticAndPrivateOnesArePassed();
         theCandidatesOfTheReceiver();
+        aClassIsNoCandidate();
     }
 
     private static void selectingAtAll() {
@@ -400,5 +424,16 @@ public final class FindingEdgesTest extends ArchiveCalls {
             sealed(x, 0);
             due("11: bodies " + row[0] + ", " + row[1] + ", below " + row[2], row[3], () -> x.select(0, 1, 0, 0, 4));
         }
+    }
+
+    private static void aClassIsNoCandidate() {
+        LinkArchive x = withEdition();
+        plain(x, 0, 0, NONE);
+        method(x, 0, 0, 0, PACKAGE, 1);
+        x.type(0, 1, false, false, 1, true, NONE);
+        method(x, 0, 1, 0, PACKAGE, 1);
+        plain(x, 0, 2, 1);
+        sealed(x, 0);
+        due("11: of the classes none stands for it, and there are no interfaces", NONE, () -> x.select(0, 0, 0, 0, 2));
     }
 }

@@ -263,6 +263,7 @@ public final class PairEdgesTest extends ArchiveCalls {
         theFirstGoalByNames();
         oneMoveTakesOneMember();
         typesThatGoOrCome();
+        aFieldsMoveIsNoMethods();
         manyMoves();
     }
 
@@ -442,6 +443,32 @@ public final class PairEdgesTest extends ArchiveCalls {
         told("20: from one that is gone to one that came: these are never akin", both, typeRow(1, 5), typeRow(2, 6));
     }
 
+    private static void aFieldsMoveIsNoMethods() {
+        for (int mover = FIELD; mover <= METHOD; mover++) {
+            int other = 1 - mover;
+            LinkArchive x = pair();
+            for (int e = 0; e < 2; e++) {
+                plain(x, e, 0, NONE);
+                plain(x, e, 15, 0);
+                x.member(e, e == 0 ? 15 : 0, mover, 0, 0, PUBLIC, true, 1);
+                x.member(e, e == 0 ? 15 : 0, other, 0, 0, PUBLIC, true, e);
+            }
+            int[][] rows = new int[3][];
+            rows[0] = row(9, 0, 0, 0, NONE, other);
+            rows[1 + mover] = row(10, 15, 0, 0, 0, mover);
+            rows[1 + other] = row(8, 15, 0, 0, NONE, other);
+            told("20: of a field and a method of one name and sort what " + mover + " moves alone", x, rows);
+        }
+        LinkArchive gone = pair();
+        plain(gone, 0, 0, NONE);
+        plain(gone, 0, 15, 0);
+        gone.member(0, 15, FIELD, 0, 0, PUBLIC, true, 1);
+        gone.member(0, 15, METHOD, 0, 0, PUBLIC, true, 1);
+        plain(gone, 1, 0, NONE);
+        gone.member(1, 0, METHOD, 0, 0, PUBLIC, true, 1);
+        told("20: likewise of a type that is gone", gone, typeRow(1, 15), row(10, 15, 0, 0, 0, 1));
+    }
+
     /** Six members of the last name each move up, and six of the first down. */
     private static void manyMoves() {
         LinkArchive x = pair();
@@ -473,6 +500,10 @@ public final class PairEdgesTest extends ArchiveCalls {
         constantsMayGo();
         theLastMemberOfTheLastType();
         methodsOfReceivers();
+        oneReceiverOfSeveral();
+        byTheInterfaceAlone();
+        whatNoneCanReachMayGo();
+        whatATypeHasFromAbove();
     }
 
     private static void fits(String what, LinkArchive x, boolean due) {
@@ -635,6 +666,70 @@ public final class PairEdgesTest extends ArchiveCalls {
             }
             // The same, no longer below, abstract, not public, OTHER, two that could run, a private one found.
             fits("change " + change, x, change == 0 || change == 4);
+        }
+    }
+
+    private static void oneReceiverOfSeveral() {
+        for (int broken = 1; broken < 6; broken++) {
+            LinkArchive x = pair();
+            for (int e = 0; e < 2; e++) {
+                x.type(e, 0, false, true, 0, true, NONE);
+                method(x, e, 0, 0, PUBLIC, 1);
+                for (int t = 1; t < 6; t++) {
+                    plain(x, e, t, 0);
+                    if (e == 1 && t == broken) {
+                        method(x, e, t, 0, PUBLIC, ABSTRACT);
+                    }
+                }
+            }
+            fits("receiver " + broken + " of five is abstract in it", x, false);
+            yes("21: and the other way it is mended", () -> x.compatible(1, 0));
+        }
+    }
+
+    private static void byTheInterfaceAlone() {
+        LinkArchive x = pair();
+        for (int e = 0; e < 2; e++) {
+            face(x, e, 0);
+            method(x, e, 0, 0, PUBLIC, ABSTRACT);
+            x.type(e, 1, false, false, 0, false, NONE);
+            x.implement(e, 1, 0);
+            method(x, e, 1, 0, e == 0 ? PUBLIC : PROTECTED, 1);
+        }
+        fits("callers of the package reach it still, but not by the interface", x, false);
+        yes("21: and the other way all do", () -> x.compatible(1, 0));
+    }
+
+    private static void whatNoneCanReachMayGo() {
+        LinkArchive x = pair();
+        for (int e = 0; e < 2; e++) {
+            x.type(e, 0, false, true, 0, true, NONE);
+            plain(x, e, 1, 0);
+        }
+        method(x, 0, 0, 0, PRIVATE, 1);
+        method(x, 0, 1, 1, PRIVATE, 1);
+        x.member(0, 1, METHOD, 2, 0, PRIVATE, true, 1);
+        x.member(0, 1, FIELD, 2, 0, PRIVATE, true, 1);
+        fits("private ones", x, true);
+        LinkArchive y = pair();
+        y.type(0, 0, false, true, 0, true, NONE);
+        method(y, 0, 0, 0, PUBLIC, ABSTRACT);
+        plain(y, 0, 1, 0);
+        y.type(1, 0, false, true, 0, true, NONE);
+        plain(y, 1, 1, 0);
+        fits("one that was ABSTRACT for each receiver", y, true);
+    }
+
+    private static void whatATypeHasFromAbove() {
+        for (int what = FIELD; what <= METHOD; what++) {
+            LinkArchive x = pair();
+            for (int e = 0; e < 2; e++) {
+                x.type(e, 0, false, true, 0, true, NONE);
+                x.member(e, 0, what, 0, 0, PUBLIC, true, 1);
+                x.type(e, 1, false, true, 0, true, e == 0 ? 0 : NONE);
+            }
+            fits("by the lower type it is not found any more, what " + what, x, false);
+            yes("21: the other way it is", () -> x.compatible(1, 0));
         }
     }
 
