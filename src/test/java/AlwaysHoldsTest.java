@@ -6,7 +6,7 @@ import java.util.List;
 import java.util.Random;
 import java.util.Set;
 
-/** What always holds, on many small editions, each asked for through the face alone and not through another writing of it. */
+/** What always holds, on many small editions that come from fixed seeds. */
 public final class AlwaysHoldsTest extends ArchiveCalls {
     private static final int PAIRS = 1500;
     private static final int NAMES = 4;

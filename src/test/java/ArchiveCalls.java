@@ -1,4 +1,3 @@
-import java.util.Arrays;
 import java.util.NoSuchElementException;
 import java.util.stream.IntStream;
 
@@ -57,16 +56,12 @@ abstract class ArchiveCalls {
         return answer ? 1 : 0;
     }
 
-    /** Numbers that are not least to most: those next to it, and those that a cast, shift or product could take for one of it. */
+    /** Numbers beside least to most: the next ones, and those that a cast, shift or product could take for them. */
     static int[] outside(int least, int most) {
         int[] wrong = {least - 1, most + 1, least - 2, most + 2, most + 16, 32 + least, 32 + most, 64 + least,
             256 + least, 65536 + least, 1 << 30, (1 << 30) + 1, (1 << 30) + most, Integer.MIN_VALUE,
             Integer.MIN_VALUE + 1, Integer.MIN_VALUE + most, Integer.MAX_VALUE};
         return IntStream.of(wrong).filter(n -> n < least || n > most).toArray();
-    }
-
-    static int[] outsideBut(int least, int most, int allowed) {
-        return Arrays.stream(outside(least, most)).filter(n -> n != allowed).toArray();
     }
 
     static LinkArchive withEdition() {
@@ -94,7 +89,7 @@ abstract class ArchiveCalls {
         due("seal(" + e + ")", NONE, () -> x.seal(e));
     }
 
-    /** An EDITION with all it can have: ten INTERFACES, each on three ahead of it, each with three FIELDS and three METHODS. */
+    /** An EDITION with all it can have: ten INTERFACES, each on three others, with three FIELDS and three METHODS. */
     static void fill(LinkArchive x, int e) {
         for (int t = 0; t < 10; t++) {
             face(x, e, t);

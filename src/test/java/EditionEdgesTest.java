@@ -426,7 +426,7 @@ public final class EditionEdgesTest extends ArchiveCalls {
         LinkArchive x = withType();
         for (int wrong : outside(0, 2)) {
             refused("6: what " + wrong, ARGUMENT, () -> x.member(0, 1, wrong, 0, 0, PUBLIC, true, 0));
-            refused("6: what " + wrong + " of an object", ARGUMENT, () -> x.member(0, 1, wrong, 0, 0, PUBLIC, false, 0));
+            refused("6: of an object " + wrong, ARGUMENT, () -> x.member(0, 1, wrong, 0, 0, PUBLIC, false, 0));
         }
         due("6: what 0", 1, () -> x.member(0, 1, 0, 0, 0, PUBLIC, true, 0));
         due("6: what 1", 2, () -> x.member(0, 1, 1, 0, 0, PUBLIC, true, 0));

@@ -312,7 +312,7 @@ public final class PairEdgesTest extends ArchiveCalls {
         told("20: to an interface of an interface", x, row(10, 3, 0, 0, 1, 0));
     }
 
-    /** Class 1 below 0; a member of class 1 in the first and another one of class 0 in the second: what, name, sort, access, static, body. */
+    /** Class 1 below 0: 1 has a member in the first, 0 in the second: what, name, sort, access, static, body. */
     private static LinkArchive likeness(int[] first, int[] second) {
         LinkArchive x = pair();
         int[][] both = {first, second};
