@@ -87,6 +87,30 @@ public final class FindingEdgesTest extends ArchiveCalls {
         sealed(y, 0);
         yes("9: the interface of an interface of a super", () -> y.above(0, 1, 4));
         no("9: and not the other way", () -> y.above(0, 4, 1));
+        aboveByMoreWaysThanThereAreTypes();
+    }
+
+    private static void aboveByMoreWaysThanThereAreTypes() {
+        LinkArchive x = withEdition();
+        int[] order = {0, 4, 5, 6, 1, 2, 3, 9};
+        for (int name : order) {
+            face(x, 0, name);
+        }
+        for (int t = 1; t < 4; t++) {
+            x.implement(0, t, 0);
+            x.implement(0, t, 4);
+            x.implement(0, t, t == 3 ? 6 : 5);
+            x.implement(0, 9, t);
+        }
+        x.member(0, 6, FIELD, 0, 0, PUBLIC, true, 0);
+        method(x, 0, 6, 0, PUBLIC, 1);
+        sealed(x, 0);
+        for (int i = 0; i < 7; i++) {
+            int upper = i;
+            yes("9: by many ways " + i, () -> x.above(0, upper, 9));
+        }
+        due("10: the last way leads to a field too", 6, () -> x.find(0, 9, false, 0, 0));
+        due("10: and to a method", 6, () -> x.find(0, 9, true, 0, 0));
     }
 
     // ---- promise 10 ----

@@ -435,6 +435,14 @@ public final class PairEdgesTest extends ArchiveCalls {
         method(came, 1, 0, 1, PUBLIC, 1);
         plain(came, 1, 15, 0);
         told("20: to a type that came", came, typeRow(2, 0), typeRow(6, 15), row(10, 15, 0, 0, 0, 1));
+        LinkArchive least = pair();
+        plain(least, 0, 15, NONE);
+        plain(least, 0, 0, 15);
+        least.member(0, 0, FIELD, 15, 3, PUBLIC, true, 1);
+        least.member(0, 0, METHOD, 15, 3, PUBLIC, true, 1);
+        plain(least, 1, 15, NONE);
+        least.member(1, 15, FIELD, 15, 3, PUBLIC, true, 1);
+        told("20: of the least type the greatest name and sort", least, typeRow(1, 0), row(10, 0, 15, 3, 15, 0));
         LinkArchive both = pair();
         plain(both, 0, 5, NONE);
         method(both, 0, 5, 0, PUBLIC, 1);
